@@ -19,6 +19,8 @@ public final class FrostMason {
     private static final int COLDEST = 9;
     private static final int COLDS = COLDEST + 1;
     private static final int DEEPEST = 9;
+    /** Across the grain a crack may go astray in colds from NEED to ahead of so much more. */
+    private static final int STRAYING = 2;
     private static final int NO_SUCH_SPLIT = -2;
 
     // What stands where in the row of a block, a slot, an order, odds, a piece: as the face numbers it.
@@ -1040,6 +1042,25 @@ public final class FrostMason {
             return night < NIGHTS && ground.hasOdds(night) ? ground.coldOf(night, luck.eighth()) : 0;
         }
 
+        /** Whether two colds do the same to every slot filled. */
+        private boolean actAlike(int fill, int cold, int otherCold) {
+            for (int slot = 0; slot < ground.slotCount && fill >> slot != 0; slot++) {
+                if ((fill >> slot & 1) == 1 && effectOf(slot, cold) != effectOf(slot, otherCold)) {
+                    return false;
+                }
+            }
+            return true;
+        }
+
+        /** What a cold does to a slot: nothing, a bruise, a split that may go astray, one that may not. */
+        private int effectOf(int slot, int cold) {
+            int need = needOf(slot);
+            if (cold < need) {
+                return cold == 0 ? 0 : 1;
+            }
+            return ground.isAcrossGrain(slot) && cold < need + STRAYING ? 2 : 3;
+        }
+
         /** A NIGHT goes by: how many slots split in it. */
         private int goThrough(int fill, int cold, Draws draws) {
             if (night >= NIGHTS) {
@@ -1075,7 +1096,7 @@ public final class FrostMason {
             }
             int line = ground.slots[slot * SLOT_ROW + SLOT_LINE];
             int away = 0;
-            if (ground.isAcrossGrain(slot) && cold < needOf(slot) + 2) {
+            if (ground.isAcrossGrain(slot) && cold < needOf(slot) + STRAYING) {
                 int draw = draws.quarter();
                 away = draw == 0 ? -1 : draw == 1 ? 1 : 0;
             }
@@ -1292,10 +1313,15 @@ public final class FrostMason {
             Yard yard = after[nights - 1];
             Ways way = ways[nights - 1];
             long sum = 0;
+            int eighths = 0;
             for (int cold = 0; cold < COLDS; cold++) {
-                int eighths = eighthsOf(from.night, fill, cold);
-                boolean more = eighths > 0;
+                eighths += ground.parts[from.night * COLDS + cold];
+                // Colds that do the same are weighed together, as the nights behind them are dear.
+                if (eighths == 0 || cold < COLDEST && from.actAlike(fill, cold, cold + 1)) {
+                    continue;
+                }
                 way.begin();
+                boolean more = true;
                 for (int i = 0; i < MOST_WAYS && more; i++) {
                     yard.copyFrom(from);
                     yard.goThrough(fill, cold, way);
@@ -1306,16 +1332,9 @@ public final class FrostMason {
                     sum += eighths * way.weight() * paid;
                     more = way.advance();
                 }
+                eighths = 0;
             }
             return sum;
-        }
-
-        /** In how many of 8 it is so cold; without slots filled all colds do the same, so that 0 stands for them. */
-        private int eighthsOf(int night, int fill, int cold) {
-            if (fill == 0) {
-                return cold == 0 ? 8 : 0;
-            }
-            return ground.parts[night * COLDS + cold];
         }
     }
 
