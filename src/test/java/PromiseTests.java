@@ -19,6 +19,7 @@ public final class PromiseTests {
         feed();
         quarry();
         faultsOfKindOne();
+        tapeBehindTheQuarry();
         faultsOfKindTwo();
         faultsOfKindThree();
         told();
@@ -203,6 +204,9 @@ public final class PromiseTests {
         faulty("x", 1, 0);
         faulty("  blocks 2 2 0;", 1, 2);
         faulty("blo", 1, 0);
+        faulty("clock 2 2 0;", 1, 0);
+        faulty("thawz 3;", 1, 0);
+        faulty("athaw 3;", 1, 0);
         faulty("Block 2 2 0;", 1, 0);
         faulty(";", 1, 0);
         faulty("3;", 1, 0);
@@ -219,6 +223,24 @@ public final class PromiseTests {
         faulty("block 2 2;", 1, 9);
         faulty("block 2 block;", 1, 8);
         faulty("thaw 3;" + (char) 200, 1, 7);
+    }
+
+    /** What stands on the tape behind the n bytes is not read. */
+    private static void tapeBehindTheQuarry() {
+        promise = 3;
+        String[] texts = {"thaws", "thaw 31;", "thaw 3;", "thaw 3  ;"};
+        int[] lengths = {4, 6, 6, 7};
+        for (int i = 0; i < texts.length; i++) {
+            FrostMason x = new FrostMason();
+            put(x, texts[i]);
+            is("the first bytes of '" + texts[i] + "'", -9, x.quarry(lengths[i]));
+            is("end too early", lengths[i], x.fault());
+        }
+        FrostMason y = new FrostMason();
+        put(y, "thaw 3;thaw 5;");
+        is("the first clause", 0, y.quarry(7));
+        is("thaw", 3, y.told(5));
+        is("the rest is gone", 0, y.count(3));
     }
 
     private static void faultsOfKindTwo() {
@@ -676,8 +698,8 @@ public final class PromiseTests {
         for (int i = 0; i < 99; i++) {
             int behind = (Integer.MAX_VALUE - 50 + i) * 1103515245 + 12345;
             kept += (behind >>> 16 & 7) < 3 ? 1 : 0;
+            is("seeds that wrap, " + (i + 1), kept, x.promise(0, Integer.MAX_VALUE - 50, i + 1));
         }
-        is("seeds that wrap", kept, x.promise(0, Integer.MAX_VALUE - 50, 99));
         is("the second order gets none", 0, x.promise(1, 0, 99));
         is("seed 0", 1, x.promise(0, 0, 1));
         refuses("no such order", NO_SUCH, () -> x.promise(2, 0, 0));
