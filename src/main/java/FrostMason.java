@@ -209,7 +209,10 @@ public final class FrostMason {
         checkSlot(slot);
         checkRange(way, 0, 2);
         checkRange(what, 0, 1);
-        return yard.canSplit(slot, way - 1) ? yard.partWide(slot, way - 1, what) * yard.partHigh(slot, way - 1, what) : NONE;
+        if (!yard.canSplit(slot, way - 1)) {
+            return NONE;
+        }
+        return yard.partWide(slot, way - 1, what) * yard.partHigh(slot, way - 1, what);
     }
 
     public int fits(int slot, int way, int part) throws NoSuchElementException, IllegalArgumentException {
@@ -950,7 +953,7 @@ public final class FrostMason {
             return NONE;
         }
 
-        /** Where the piece's lower edge stands in its row, of those that a line of this slot runs along. */
+        /** Where the piece's edge below this slot's line stands among the pieces; the edge above it stands next. */
         private int lowEdge(int piece, int slot) {
             return piece * PIECE_ROW + (ground.slots[slot * SLOT_ROW + SLOT_WAY] == 0 ? PIECE_X : PIECE_Y);
         }
