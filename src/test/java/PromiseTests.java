@@ -953,7 +953,7 @@ public final class PromiseTests {
         is("stone adds up", 5 * 4 + 144, x.sums(1));
         is("a tower of ten of 1 by 2, then the long ones", 18, x.tower());
         is("trace", 11, x.trace(11, 0));
-        for (int i = 0; i < 470; i++) {
+        for (int i = 0; i < 235; i++) {
             x.image();
             x.restore();
         }
