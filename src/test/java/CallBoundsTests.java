@@ -13,6 +13,8 @@ public final class CallBoundsTests {
         quarryBytes();
         quarryEmptiesTheTape();
         quarryAnew();
+        quarryBehindAGreaterOne();
+        quarryCountsFromNothing();
         quarryWithFault();
         faultOfTheLatest();
         told();
@@ -223,6 +225,89 @@ public final class CallBoundsTests {
         Checks.is("an empty one", 0, empty.quarry(0));
         Checks.same("all is as in a new object", Checks.all(new FrostMason()), Checks.all(empty));
         Checks.is("its odds", 0, empty.odds(0, 1));
+    }
+
+    /** All that can be asked without a change, beside what Checks.all() asks. */
+    private static String more(FrostMason x) {
+        StringBuilder b = new StringBuilder();
+        for (int night = 0; night < 4; night++) {
+            for (int k = 1; k <= 9; k++) {
+                b.append(x.odds(night, k)).append(' ');
+            }
+        }
+        for (int slot = 0; slot < x.told(1); slot++) {
+            for (int way = 0; way < 3; way++) {
+                b.append(x.left(slot, way, 0)).append(' ').append(x.fits(slot, way, 0)).append(' ');
+                b.append(x.fits(slot, way, 1)).append(' ').append(x.face(slot)).append(' ');
+            }
+        }
+        b.append(x.tonight()).append(' ').append(x.worth(0)).append(' ').append(x.worth(1)).append(' ');
+        b.append(x.now(x.undone() & 7, 0)).append(' ').append(x.now(x.undone() & 7, 1)).append(' ');
+        b.append(x.deeper()).append(' ').append(x.tower());
+        return b.toString();
+    }
+
+    private static void quarryBehindAGreaterOne() {
+        Checks.says("Promise 3: are the QUARRY: nothing of an earlier, greater one");
+        String great = Checks.times(6, "block 12 12 0;") + "slot 0 0 6 0 9;slot 0 1 6 0 9;slot 0 1 6 6 9;slot 1 0 6 0 9;slot 2 0 1 0 9;slot 2 0 3 0 9;slot 3 1 1 0 9;slot 3 1 5 0 9;"
+                + Checks.times(5, "order 6 6 9 29 9;") + "order 3 4 1 1 1;" + Checks.times(8, "odds0 9 1;") + Checks.times(8, "odds1 8 1;") + "water 6;sledge 2;thaw 3;";
+        String[] lesser = {"", "block 4 3 0;", QUARRY, Checks.times(6, "block 3 4 1;") + "slot 5 0 1 0 1;", "odds 3 5 1;block 6 6 0;slot 0 0 3 1 2;order 3 6 1 9 1;"};
+        for (String text : lesser) {
+            FrostMason x = Checks.told(great);
+            x.seed(5);
+            x.night(1 + 2 + 4 + 16 + 32 + 64, -1);
+            x.night(8 + 128, 9);
+            x.night(0, -1);
+            x.tower();
+            x.tonight();
+            Checks.tell(x, text);
+            FrostMason fresh = Checks.told(text);
+            Checks.same("all that can be seen", Checks.all(fresh), Checks.all(x));
+            Checks.same("more that can be seen", more(fresh), more(x));
+            for (int i = 0; i < 3; i++) {
+                Checks.is("a night", fresh.night(fresh.undone() & 1, 3 * i + 2), x.night(x.undone() & 1, 3 * i + 2));
+            }
+            Checks.is("drawn", fresh.night(0, -1), x.night(0, -1));
+            Checks.same("all behind nights", Checks.all(fresh), Checks.all(x));
+        }
+        FrostMason parts = Checks.told("block 12 12 0;slot 0 0 6 0 9;slot 0 1 6 0 9;slot 0 1 6 6 9;slot 0 0 3 0 9;slot 0 0 9 6 9;");
+        Checks.is("five splits", 5, parts.night(31, 9));
+        Checks.tell(parts, Checks.times(6, "block 3 4 1;"));
+        Checks.same("whole blocks behind parts", Checks.all(Checks.told(Checks.times(6, "block 3 4 1;"))), Checks.all(parts));
+        FrostMason slots = Checks.told("block 4 3 0;block 6 3 0;slot 0 0 2 1 2;slot 1 0 3 1 2;order 2 3 2 0 5;order 3 3 2 0 6;odds 0 3 8;");
+        Checks.is("the second slot", 1, slots.deeper());
+        Checks.tell(slots, "block 4 3 0;block 6 3 0;slot 0 0 2 1 2;order 2 3 2 0 5;order 3 3 2 0 6;odds 0 3 8;");
+        Checks.is("there is no second slot any more", 0, slots.deeper());
+        FrostMason odds = Checks.told("odds 0 5 4;odds 0 9 4;");
+        Checks.tell(odds, "odds 0 5 4;");
+        odds.seed(Checks.seedFor(7, 8));
+        odds.night(0, -1);
+        Checks.is("there are no second odds any more", 0, odds.cold(0));
+        // What had gone astray and had been bruised is no more counted either.
+        FrostMason y = Checks.told("block 5 4 1;slot 0 0 2 1 3;");
+        y.seed(Checks.seedFor(0, 4));
+        y.night(1, 1);
+        y.night(1, 6);
+        Checks.is("astray", 1, y.sums(5));
+        Checks.is("bruises", 1, y.sums(6));
+        Checks.tell(y, "block 5 4 1;slot 0 0 2 1 3;");
+        for (int what = 2; what < 7; what++) {
+            Checks.is("sums(" + what + ")", 0, y.sums(what));
+        }
+    }
+
+    private static void quarryCountsFromNothing() {
+        Checks.says("Promise 3: what is told at most is told of each QUARRY");
+        String[] full = {Checks.times(6, "block 2 2 0;"), "block 2 2 0;" + Checks.times(12, "slot 0 0 1 0 1;"), Checks.times(6, "order 1 1 1 1 1;"), Checks.times(8, "odds 0 1 1;") + Checks.times(8, "odds 1 1 1;") + Checks.times(8, "odds 2 1 1;"), Checks.times(60, "thaw 3;")};
+        for (String text : full) {
+            FrostMason x = Checks.told(text);
+            Checks.tell(x, text);
+            Checks.is("the fault of a full one again", -1, x.fault());
+            Checks.tell(x, text + "x");
+            Checks.is("a fault", text.length(), x.fault());
+            Checks.tell(x, text);
+            Checks.is("the fault of a full one behind a fault", -1, x.fault());
+        }
     }
 
     private static void quarryWithFault() {
@@ -491,7 +576,10 @@ public final class CallBoundsTests {
         Checks.refusesOutside("left of a what", 0, 1, Checks.ARGUMENT, what -> x.left(0, 1, what));
         int[][] due = {{3, 9}, {6, 6}, {9, 3}};
         int[][] other = {{4, 16}, {8, 12}, {12, 8}};
+        FrostMason down = Checks.told("block 3 4 0;slot 0 1 2 1 3;");
         for (int way = 0; way < 3; way++) {
+            Checks.is("a line down, lower, way " + way, 3 + 3 * way, down.left(0, way, 0));
+            Checks.is("a line down, upper, way " + way, 9 - 3 * way, down.left(0, way, 1));
             for (int what = 0; what < 2; what++) {
                 Checks.is("left(0, " + way + ", " + what + ")", due[way][what], x.left(0, way, what));
                 Checks.is("left(1, " + way + ", " + what + ")", other[way][what], x.left(1, way, what));
@@ -545,6 +633,12 @@ public final class CallBoundsTests {
         for (int way = 0; way < 3; way++) {
             Checks.is("not alive", -1, x.fits(0, way, 0));
             Checks.is("not alive", -1, x.fits(0, way, 1));
+        }
+        FrostMason down = Checks.told("block 3 4 0;slot 0 1 2 1 3;order 3 1 1 0 1;order 3 3 1 0 1;order 3 2 1 0 1;");
+        int[] lower = {0, 2, 1};
+        for (int way = 0; way < 3; way++) {
+            Checks.is("a line down, lower, way " + way, lower[way], down.fits(0, way, 0));
+            Checks.is("a line down, upper, way " + way, lower[2 - way], down.fits(0, way, 1));
         }
         FrostMason last = Checks.told("block 4 3 0;slot 0 0 2 1 3;" + Checks.times(5, "order 9 9 1 0 1;") + "order 3 2 1 0 1;");
         Checks.is("the sixth order", 5, last.fits(0, 1, 0));
@@ -708,6 +802,16 @@ public final class CallBoundsTests {
         Checks.same("all that can be seen", before, Checks.all(x));
         Checks.is("cold of a night not gone any more", -1, x.cold(2));
         Checks.is("a split not made any more", -2, x.trace(1, 0));
+        // The parts of a block that is whole again lie no more when it is taken.
+        FrostMason whole = Checks.told("block 4 3 0;slot 0 0 2 1 3;order 4 3 1 5 1;");
+        whole.image();
+        whole.night(1, 9);
+        whole.restore();
+        whole.night(0, 0);
+        Checks.is("taken whole", 12, whole.sums(2));
+        Checks.is("the slot's piece is taken", -1, whole.slot(0, 7));
+        Checks.is("the slot is not alive", 0, whole.undone());
+        Checks.is("no tower", 0, whole.tower());
         FrostMason full = new FrostMason();
         for (int i = 0; i < 30; i++) {
             full.plan(0);

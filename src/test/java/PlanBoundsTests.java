@@ -123,6 +123,22 @@ public final class PlanBoundsTests {
         Checks.is("bruised now", 1, y.sums(6));
         Checks.is("paid more than now", 20, y.would(0, 0));
         Checks.is("bruises of the plan", 0, y.would(0, 5));
+        // What had split, gone astray and been bruised ahead of the plan is not of it.
+        FrostMason w = Checks.told("block 5 4 1;block 4 4 0;slot 0 0 2 1 3;slot 1 0 2 0 2;order 1 4 1 29 5;odds 2 3 8;odds 3 4 8;");
+        w.seed(Checks.seedFor(0, 4));
+        w.night(2, 3);
+        w.night(1, 5);
+        Checks.is("astray now", 1, w.sums(5));
+        w.plan(2);
+        int[] first = {0, 0, 0, 0, 1, 1};
+        int[] both = {0, 1, 0, 0, 1, 1};
+        for (int what = 0; what < 6; what++) {
+            Checks.is("would(0, " + what + ") of one night", first[what], w.would(0, what));
+        }
+        w.plan(2);
+        for (int what = 0; what < 6; what++) {
+            Checks.is("would(0, " + what + ") of two nights", both[what], w.would(0, what));
+        }
         for (int draw = 0; draw < 8; draw++) {
             FrostMason z = Checks.told(ONE + "odds 0 9 4;");
             z.plan(1);
@@ -296,6 +312,8 @@ public final class PlanBoundsTests {
         worth(Checks.told(two + "order 2 3 4 1 5;odds 0 9 8;odds 1 9 8;"), 0, 20, 1);
         worth(Checks.told(two + "order 2 3 4 1 5;odds 0 9 8;odds 1 9 8;water 1;"), 1, 20, 1);
         worth(Checks.told(two + "odds 0 9 8;odds 1 9 8;"), 0, 0, 1);
+        // The bits, not how many: the first two pay as much as the third alone.
+        worth(Checks.told("block 8 3 0;block 10 5 0;slot 0 0 4 0 9;slot 0 0 2 0 9;slot 1 0 5 0 9;order 2 3 2 0 10;order 5 5 2 0 10;odds 0 9 8;sledge 2;"), 3, 20, 1);
         worth(Checks.told(two + "order 2 3 4 1 5;"), 0, 0, 1);
     }
 
@@ -355,6 +373,13 @@ public final class PlanBoundsTests {
         // With COLD of NEED and 2 there is no DRAW.
         worth(Checks.told("block 5 4 1;slot 0 0 1 1 3;order 1 4 1 0 1;odds 0 7 1;"), 1, 1, 8);
         worth(Checks.told("block 5 4 1;slot 0 0 2 1 3;order 1 4 1 0 1;odds 0 7 8;"), 0, 0, 1);
+        // COLD of NEED less 1, NEED, NEED and 1, NEED and 2, none: all in one NIGHT.
+        String colds = "odds 0 4 2;odds 0 5 1;odds 0 6 1;odds 0 7 2;";
+        worth(Checks.told("block 5 4 1;slot 0 0 2 1 3;order 1 4 1 0 1;" + colds), 1, 1, 16);
+        worth(Checks.told("block 5 4 1;slot 0 0 2 1 3;order 2 4 1 0 1;" + colds), 1, 7, 16);
+        worth(Checks.told("block 5 4 1;slot 0 0 2 1 3;order 5 4 1 0 1;" + colds), 0, 1, 1);
+        now(Checks.told("block 5 4 1;slot 0 0 2 1 3;order 5 4 1 0 1;" + colds), 1, 1, 2);
+        now(Checks.told("block 5 4 1;block 5 4 0;slot 0 0 2 1 3;slot 1 0 2 1 3;order 3 4 2 0 1;" + colds), 3, 19, 16);
         // Three of them together: at least one of 1 by 4 in 37 of 64, in 1 of 8 nights.
         String three = "block 5 4 1;block 5 4 1;block 5 4 1;slot 0 0 2 1 3;slot 1 0 2 1 3;slot 2 0 2 1 3;";
         worth(Checks.told(three + "order 1 4 1 0 1;odds 0 5 1;"), 7, 37, 512);
