@@ -40,6 +40,7 @@ public final class CallBoundsTests {
         promise();
         worthAndNow();
         keptNoLongerThanTrue();
+        allFull();
         threeImages();
         imageOfAll();
         imageNotOf();
@@ -759,6 +760,59 @@ public final class CallBoundsTests {
         Checks.is("another quarry", 1, Checks.tell(x, "block 4 3 0;slot 0 0 2 1 3;order 2 3 2 5 7;odds 0 9 8;"));
         Checks.is("its worth", 14, x.worth(0));
         Checks.is("its set", 1, x.tonight());
+        // A set chosen ahead is not the answer where nothing can be paid any more.
+        String[] ends = {"order 2 3 2 0 10;", "order 2 3 2 29 10;thaw 1;"};
+        for (String end : ends) {
+            FrostMason y = Checks.told("block 4 3 0;slot 0 0 2 1 3;odds 0 9 8;odds 1 9 8;" + end);
+            Checks.is("a set", 1, y.tonight());
+            y.night(0, 0);
+            Checks.is("nothing can be paid any more", 0, y.tonight());
+            Checks.is("nothing can be paid any more", 0, y.worth(0));
+            Checks.is("the first alive", 0, y.deeper());
+        }
+    }
+
+    private static void allFull() {
+        Checks.says("6 BLOCKS, 12 SLOTS, 6 ORDERS, 18 PIECES, all at once");
+        // Each block of 6 by 2 is split at 2 and at 4 into three of 2 by 2.
+        StringBuilder text = new StringBuilder(Checks.times(6, "block 6 2 0;"));
+        for (int slot = 0; slot < 12; slot++) {
+            text.append("slot ").append(slot / 2).append(" 0 ").append(2 + slot % 2 * 2).append(" 0 2;");
+        }
+        text.append("order 4 2 1 0 9;").append(Checks.times(5, "order 2 2 1 0 3;")).append("odds 0 3 8;");
+        FrostMason x = Checks.told(text.toString());
+        Checks.is("undone", 4095, x.undone());
+        Checks.is("no frost for them", 0, x.tonight());
+        Checks.is("one depth more", 0, x.deeper());
+        x.plan(4095);
+        Checks.is("bruises by a plan", 12, x.would(0, 5));
+        Checks.is("left of the last", 8, x.left(11, 1, 0));
+        Checks.is("fits of the last", 1, x.fits(11, 1, 1));
+        Checks.is("promise of the last", 0, x.promise(5, 0, 9));
+        Checks.is("six of twelve", 0, x.now(4032, 0));
+        Checks.is("all split", 12, x.night(4095, 9));
+        Checks.is("pieces", 18, x.told(7));
+        Checks.is("the last piece", 6, x.piece(17, 2));
+        Checks.refuses("piece(18)", Checks.INDEX, () -> x.piece(18, 0));
+        Checks.is("the last split", 11, x.trace(11, 0));
+        Checks.is("a thirteenth split", -2, x.trace(12, 0));
+        Checks.is("the last order has its piece", 1, x.order(5, 5));
+        Checks.is("paid", 15, x.sums(3));
+        Checks.is("a tower of what lies", 13, x.tower());
+        Checks.is("face of the last", 1, x.face(11));
+        Checks.is("the plan fills nothing", 1, x.would(0, 3));
+        Checks.is("orders that have all", 5, x.would(0, 4));
+        Checks.is("nothing tonight", 0, x.tonight());
+        Checks.is("none is alive", -1, x.deeper());
+        FrostMason y = Checks.told(Checks.times(6, "block 6 2 0;") + Checks.times(11, "slot 0 0 2 0 2;") + "slot 1 0 2 0 2;" + Checks.times(6, "order 2 2 1 0 3;") + "odds 0 9 8;odds 1 9 8;thaw 9;");
+        Checks.is("the first of eleven alike", 1, y.tonight());
+        y.night(2048, 9);
+        Checks.is("behind all orders' night", 0, y.tonight());
+        Checks.is("the first alive", 0, y.deeper());
+        FrostMason tower = Checks.told(text.substring(0, text.indexOf("order")));
+        tower.night(4095, 9);
+        Checks.is("a tower of all eighteen", 18, tower.tower());
+        Checks.is("all of no order's size", 18, tower.sums(7));
     }
 
     private static void threeImages() {
