@@ -1359,7 +1359,7 @@ public final class FrostMason {
             }
             int highest = 0;
             for (int i = 0; i < size; i++) {
-                height[i] = 1 + highestBelow(i);
+                height[i] = 1 + highestUpon(i);
                 highest = Math.max(highest, height[i]);
             }
             return highest;
@@ -1380,8 +1380,8 @@ public final class FrostMason {
             size++;
         }
 
-        /** The highest tower that can stand upon piece i: pieces laid with the longer side one way fit, if any way does. */
-        private int highestBelow(int i) {
+        /** The highest tower that can stand upon piece i: if any way fits, so does each longer side laid one way. */
+        private int highestUpon(int i) {
             int highest = 0;
             for (int j = 0; j < i; j++) {
                 if (shorter[j] <= shorter[i]) {
